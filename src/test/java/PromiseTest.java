@@ -117,8 +117,19 @@ public final class PromiseTest {
             Check.same("at(" + place + ")", night.at(place), -1);
         }
         Check.same("lamp", night.lamp(50, 0), 50);
-        Check.same("sound(0)", night.sound(0), -1);
+        for (int what = 0; what <= 3; what++) {
+            Check.same("sound(" + what + ")", night.sound(what), what == 0 ? -1 : 0);
+        }
+        Check.same("nextGong", night.nextGong(), -1);
+        Check.same("bestSwap", night.bestSwap(), -1);
         Check.same("gripable", night.gripable(), 0);
+        Check.sameReal("meanShadow", night.meanShadow(), 0.0);
+        Check.same("no secret is known", night.person(0, 0, 0, 0, 1, false), 0);
+        Check.truth("no secret is known", night.knows(0, -1), false);
+        night.figure(0, 40);
+        night.grip(0);
+        night.lift(0, 15);
+        Check.same("no sway", night.ofFigure(0, BLUR), 3);
     }
 
     private static void person() {
@@ -664,6 +675,10 @@ public final class PromiseTest {
         Check.truth("1 does not know in the new order", night.knows(2, 3), false);
         night.person(0, 0, 0, 0, 1, true);
         Check.truth("one told later", night.knows(3, 0), true);
+        night.swap(0, 2);
+        night.swap(0, 3);
+        Check.truth("behind the first scene", night.knows(1, 0), true);
+        Check.truth("ahead of it", night.knows(1, -1), false);
     }
 
     private static void ofFigure() {
@@ -942,6 +957,10 @@ public final class PromiseTest {
         later.scene(15, 0, 4, 20, -1, 2);
         later.scene(15, 0, 3, 20, -1, 0);
         Check.same("13 alone leaves none", later.bestSwap(), 13);
+        Kelirnight next = cycle();
+        next.scene(15, 0, 6, 20, -1, 1);
+        next.scene(15, 0, 3, 20, -1, 0);
+        Check.same("neighbours", next.bestSwap(), 1);
         Kelirnight two = cycle();
         two.scene(15, 0, 6, 20, -1, 1);
         two.scene(15, 0, 6, 20, -1, 2);
@@ -1015,5 +1034,9 @@ public final class PromiseTest {
         full.lamp(44, 5);
         Check.same("in the night", full.digest(), Digest.of(full));
         Check.same("again", full.digest(), Digest.of(full));
+        Kelirnight told = cycle();
+        told.scene(15, 0, 2, 20, -1, -1);
+        told.scene(15, 0, 7, 20, -1, 0);
+        Check.same("who knows behind the last", told.digest(), Digest.of(told));
     }
 }
