@@ -116,7 +116,6 @@ public final class PromiseTest {
         for (int place = 0; place <= 9; place++) {
             Check.same("at(" + place + ")", night.at(place), -1);
         }
-        Check.same("lamp", night.lamp(50, 0), 50);
         for (int what = 0; what <= 3; what++) {
             Check.same("sound(" + what + ")", night.sound(what), what == 0 ? -1 : 0);
         }
@@ -130,6 +129,7 @@ public final class PromiseTest {
         night.grip(0);
         night.lift(0, 15);
         Check.same("no sway", night.ofFigure(0, BLUR), 3);
+        Check.same("the lamp's distance", night.lamp(20, 9), 50);
     }
 
     private static void person() {
