@@ -70,42 +70,6 @@ public final class PromiseTest {
         Check.end();
     }
 
-    /** 0 left, rank 1, pitch 5, in 0-50, knows; 1 right, rank 2, pitch 9, in 10-20; 2 left, rank 1, pitch 0, in 0-100. */
-    private static Kelirnight cycle() {
-        Kelirnight night = new Kelirnight();
-        night.person(0, 1, 5, 0, 50, true);
-        night.person(1, 2, 9, 10, 20, false);
-        night.person(0, 1, 0, 0, 100, false);
-        return night;
-    }
-
-    /** Figures: 0 of person 0, 1 of 1 (right), 2 of 0, 3 of 2; a calm scene of persons 0 and 1 for 90 minutes. */
-    private static Kelirnight troupe() {
-        Kelirnight night = cycle();
-        night.figure(0, 40);
-        night.figure(1, 60);
-        night.figure(0, 25);
-        night.figure(2, 90);
-        night.scene(15, 0, 3, 90, -1, -1);
-        return night;
-    }
-
-    private static Kelirnight playing(int mood) {
-        Kelirnight night = cycle();
-        night.scene(15, mood, 7, 90, -1, -1);
-        night.tap(0);
-        return night;
-    }
-
-    private static void passAll(Kelirnight night, int minutes) {
-        int left = minutes;
-        while (left > 0) {
-            int now = Math.min(left, 99);
-            night.pass(now);
-            left -= now;
-        }
-    }
-
     private static void newObject() {
         Check.begin("promise 1");
         Kelirnight night = new Kelirnight();
@@ -158,7 +122,7 @@ public final class PromiseTest {
 
     private static void figure() {
         Check.begin("promise 3");
-        Kelirnight night = cycle();
+        Kelirnight night = Nights.cycle();
         Check.refused("no person", night, INDEX, () -> night.figure(3, 50));
         Check.refused("person -1", night, INDEX, () -> night.figure(-1, 5));
         Check.refused("height 9", night, ARGUMENT, () -> night.figure(0, 9));
@@ -177,7 +141,7 @@ public final class PromiseTest {
         Check.begin("promise 4");
         Kelirnight none = new Kelirnight();
         Check.refused("without persons", none, ARGUMENT, () -> none.scene(0, 0, 1, 5, -1, -1));
-        Kelirnight night = cycle();
+        Kelirnight night = Nights.cycle();
         Check.refused("year -1", night, ARGUMENT, () -> night.scene(-1, 0, 1, 5, -1, -1));
         Check.refused("year 101", night, ARGUMENT, () -> night.scene(101, 0, 1, 5, -1, -1));
         Check.refused("mood -1", night, ARGUMENT, () -> night.scene(0, -1, 1, 5, -1, -1));
@@ -203,7 +167,7 @@ public final class PromiseTest {
 
     private static void length() {
         Check.begin("promise 5");
-        Kelirnight night = cycle();
+        Kelirnight night = Nights.cycle();
         night.scene(15, 0, 1, 10, -1, -1);
         night.scene(15, 0, 1, 20, -1, -1);
         Check.refused("scene 2", night, INDEX, () -> night.length(2, 5));
@@ -226,7 +190,7 @@ public final class PromiseTest {
 
     private static void swap() {
         Check.begin("promise 6");
-        Kelirnight night = cycle();
+        Kelirnight night = Nights.cycle();
         night.scene(20, 0, 3, 60, 1, -1);
         night.scene(20, 1, 2, 30, -1, -1);
         night.scene(19, 0, 4, 10, -1, 2);
@@ -247,7 +211,7 @@ public final class PromiseTest {
 
     private static void lamp() {
         Check.begin("promise 7");
-        Kelirnight night = troupe();
+        Kelirnight night = Nights.troupe();
         Check.refused("distance 19", night, ARGUMENT, () -> night.lamp(19, 0));
         Check.refused("distance 81", night, ARGUMENT, () -> night.lamp(81, 0));
         Check.refused("sway -1", night, ARGUMENT, () -> night.lamp(50, -1));
@@ -266,7 +230,7 @@ public final class PromiseTest {
 
     private static void grip() {
         Check.begin("promise 8");
-        Kelirnight night = troupe();
+        Kelirnight night = Nights.troupe();
         Check.refused("figure 4", night, INDEX, () -> night.grip(4));
         Check.refused("figure -1", night, INDEX, () -> night.grip(-1));
         Check.same("left from its box", night.grip(0), 2);
@@ -285,7 +249,7 @@ public final class PromiseTest {
 
     private static void gripPlanted() {
         Check.begin("promise 8, planted");
-        Kelirnight night = troupe();
+        Kelirnight night = Nights.troupe();
         night.grip(0);
         night.move(0, 4);
         night.plant(0);
@@ -315,7 +279,7 @@ public final class PromiseTest {
 
     private static void move() {
         Check.begin("promise 9");
-        Kelirnight night = troupe();
+        Kelirnight night = Nights.troupe();
         Check.refused("figure 4", night, INDEX, () -> night.move(4, 10));
         Check.refused("place -1", night, ARGUMENT, () -> night.move(0, -1));
         Check.refused("place 10", night, ARGUMENT, () -> night.move(0, 10));
@@ -343,7 +307,7 @@ public final class PromiseTest {
 
     private static void lift() {
         Check.begin("promise 10");
-        Kelirnight night = troupe();
+        Kelirnight night = Nights.troupe();
         Check.refused("figure 4", night, INDEX, () -> night.lift(4, 16));
         Check.refused("lifted -1", night, ARGUMENT, () -> night.lift(0, -1));
         Check.refused("lifted 16", night, ARGUMENT, () -> night.lift(0, 16));
@@ -358,7 +322,7 @@ public final class PromiseTest {
 
     private static void plant() {
         Check.begin("promise 11");
-        Kelirnight night = troupe();
+        Kelirnight night = Nights.troupe();
         Check.refused("figure -1", night, INDEX, () -> night.plant(-1));
         Check.refused("figure 4", night, INDEX, () -> night.plant(4));
         Check.refused("in its box", night, STATE, () -> night.plant(1));
@@ -376,7 +340,7 @@ public final class PromiseTest {
 
     private static void hand() {
         Check.begin("promise 12");
-        Kelirnight night = troupe();
+        Kelirnight night = Nights.troupe();
         Check.refused("figure 4", night, INDEX, () -> night.hand(4));
         Check.refused("figure -1", night, INDEX, () -> night.hand(-1));
         Check.refused("in its box", night, STATE, () -> night.hand(0));
@@ -402,7 +366,7 @@ public final class PromiseTest {
 
     private static void away() {
         Check.begin("promise 13");
-        Kelirnight night = troupe();
+        Kelirnight night = Nights.troupe();
         Check.refused("figure 4", night, INDEX, () -> night.away(4));
         Check.refused("figure -1", night, INDEX, () -> night.away(-1));
         Check.refused("in its box", night, STATE, () -> night.away(0));
@@ -433,7 +397,7 @@ public final class PromiseTest {
 
     private static void tap() {
         Check.begin("promise 14");
-        Kelirnight night = cycle();
+        Kelirnight night = Nights.cycle();
         Check.refused("tap -1", night, ARGUMENT, () -> night.tap(-1));
         Check.refused("tap 4", night, ARGUMENT, () -> night.tap(4));
         Check.truth("no scene is on", night.tap(0), false);
@@ -461,7 +425,7 @@ public final class PromiseTest {
 
     private static void tapAtTheGong() {
         Check.begin("promise 14, at the gong");
-        Kelirnight night = playing(3);
+        Kelirnight night = Nights.playing(3);
         night.tap(1);
         night.pass(3);
         Check.same("beat", night.sound(2), 24);
@@ -498,7 +462,7 @@ public final class PromiseTest {
 
     private static void speak() {
         Check.begin("promise 15");
-        Kelirnight night = troupe();
+        Kelirnight night = Nights.troupe();
         Check.refused("person 3", night, INDEX, () -> night.speak(3, 0, 0, 0));
         Check.refused("to 3", night, INDEX, () -> night.speak(0, 3, 0, 0));
         Check.refused("person -1", night, INDEX, () -> night.speak(-1, 0, 1, 0));
@@ -530,7 +494,7 @@ public final class PromiseTest {
 
     private static void speakTired() {
         Check.begin("promise 15, tired");
-        Kelirnight night = troupe();
+        Kelirnight night = Nights.troupe();
         night.grip(1);
         night.grip(3);
         Check.same("9 and 5", night.speak(1, 0, 9, -1), 13);
@@ -545,9 +509,9 @@ public final class PromiseTest {
         Check.refused("80 is too tired", night, STATE, () -> night.speak(1, 0, 1, -1));
         night.pass(1);
         Check.same("79 again", night.speak(1, 0, 1, -1), 80);
-        Kelirnight late = troupe();
+        Kelirnight late = Nights.troupe();
         late.grip(1);
-        passAll(late, 535);
+        Nights.passAll(late, 535);
         Check.refused("beyond 540", late, STATE, () -> late.speak(1, 0, 6, -1));
         Check.same("up to 540", late.speak(1, 0, 5, -1), 7);
         Check.same("minute", late.many(MINUTE), 540);
@@ -574,7 +538,7 @@ public final class PromiseTest {
 
     private static void offer() {
         Check.begin("promise 17");
-        Kelirnight night = playing(0);
+        Kelirnight night = Nights.playing(0);
         Check.same("5 more", night.offer(), 25);
         Check.same("3 minutes", night.many(MINUTE), 3);
         Check.same("the orchestra plays", night.many(GONGS), 3);
@@ -582,19 +546,19 @@ public final class PromiseTest {
         Check.same("30 at most", night.offer(), 30);
         night.joke(2);
         Check.same("30 at most", night.offer(), 30);
-        passAll(night, 525);
+        Nights.passAll(night, 525);
         Check.same("minute", night.many(MINUTE), 537);
         night.joke(9);
         Check.same("up to 540", night.offer(), 26);
         Check.refused("beyond 540", night, STATE, night::offer);
         Kelirnight late = new Kelirnight();
-        passAll(late, 538);
+        Nights.passAll(late, 538);
         Check.refused("2 minutes are left", late, STATE, late::offer);
     }
 
     private static void pass() {
         Check.begin("promise 18");
-        Kelirnight night = playing(2);
+        Kelirnight night = Nights.playing(2);
         Check.refused("0 minutes", night, ARGUMENT, () -> night.pass(0));
         Check.refused("100 minutes", night, ARGUMENT, () -> night.pass(100));
         Check.refused("below 0", night, ARGUMENT, () -> night.pass(Integer.MIN_VALUE));
@@ -603,12 +567,12 @@ public final class PromiseTest {
         Check.same("a gong", night.pass(1), 1);
         Check.same("99 minutes", night.pass(99), 66);
         Check.same("gongs ever", night.many(GONGS), 67);
-        passAll(night, 430);
+        Nights.passAll(night, 430);
         Check.refused("10 beyond", night, STATE, () -> night.pass(10));
         Check.same("up to 540", night.pass(9), 6);
         Check.refused("no minute left", night, STATE, () -> night.pass(1));
         Check.refused("no minute left, wrong", night, ARGUMENT, () -> night.pass(100));
-        Kelirnight fast = playing(0);
+        Kelirnight fast = Nights.playing(0);
         fast.tap(1);
         Check.same("1 at speed 1", fast.pass(1), 1);
         Check.same("2 at speed 2", fast.pass(1), 2);
@@ -619,7 +583,7 @@ public final class PromiseTest {
 
     private static void passWearsAndRests() {
         Check.begin("promise 18, wear and rest");
-        Kelirnight night = troupe();
+        Kelirnight night = Nights.troupe();
         night.grip(0);
         night.move(0, 1);
         night.plant(0);
@@ -645,13 +609,13 @@ public final class PromiseTest {
         for (int k = 0; k < 24; k++) {
             night.move(1, k % 2 == 0 ? 5 : 9);
         }
-        passAll(night, 54);
+        Nights.passAll(night, 54);
         Check.same("100 at most", night.ofFigure(1, WEAR), 100);
     }
 
     private static void knows() {
         Check.begin("promise 19");
-        Kelirnight night = cycle();
+        Kelirnight night = Nights.cycle();
         Check.truth("0 at first", night.knows(0, -1), true);
         Check.truth("1 at first", night.knows(1, -1), false);
         Check.refused("person 3", night, INDEX, () -> night.knows(3, -1));
@@ -683,7 +647,7 @@ public final class PromiseTest {
 
     private static void ofFigure() {
         Check.begin("promise 20");
-        Kelirnight night = troupe();
+        Kelirnight night = Nights.troupe();
         Check.refused("figure 4", night, INDEX, () -> night.ofFigure(4, 8));
         Check.refused("figure -1", night, INDEX, () -> night.ofFigure(-1, 0));
         Check.refused("what -1", night, ARGUMENT, () -> night.ofFigure(0, -1));
@@ -714,7 +678,7 @@ public final class PromiseTest {
 
     private static void ofScene() {
         Check.begin("promise 21");
-        Kelirnight night = cycle();
+        Kelirnight night = Nights.cycle();
         night.scene(15, 1, 3, 90, 0, 1);
         night.scene(0, 0, 5, 89, -1, 0);
         night.scene(50, 1, 5, 90, 0, -1);
@@ -743,7 +707,7 @@ public final class PromiseTest {
     }
 
     private static int breachOfOne(int year, int cast, int dies, int tells) {
-        Kelirnight night = cycle();
+        Kelirnight night = Nights.cycle();
         night.scene(year, 0, cast, 5, dies, tells);
         return night.ofScene(0, BREACH);
     }
@@ -759,7 +723,7 @@ public final class PromiseTest {
         Check.same("dies too early", breachOfOne(19, 7, 1, -1), 2);
         Check.same("1 ahead of 2", breachOfOne(9, 7, 0, -1), 1);
         Check.same("2 ahead of 3", breachOfOne(19, 7, 0, 1), 2);
-        Kelirnight night = cycle();
+        Kelirnight night = Nights.cycle();
         night.scene(19, 0, 3, 5, 1, -1);
         night.scene(18, 0, 2, 5, -1, -1);
         night.scene(19, 0, 3, 5, -1, -1);
@@ -776,7 +740,7 @@ public final class PromiseTest {
         Check.begin("promise 21, breaches 3 and 4");
         Check.same("who knows", breachOfOne(15, 3, -1, 0), 0);
         Check.same("who does not know", breachOfOne(15, 3, -1, 1), 3);
-        Kelirnight night = cycle();
+        Kelirnight night = Nights.cycle();
         night.scene(15, 2, 2, 90, -1, 1);
         night.scene(15, 2, 2, 90, -1, -1);
         night.scene(15, 2, 2, 90, -1, -1);
@@ -786,7 +750,7 @@ public final class PromiseTest {
         for (int k = 0; k < due.length; k++) {
             Check.same("breach of " + k, night.ofScene(k, BREACH), due[k]);
         }
-        Kelirnight calm = cycle();
+        Kelirnight calm = Nights.cycle();
         calm.scene(15, 0, 2, 5, -1, -1);
         calm.scene(15, 1, 2, 5, -1, -1);
         calm.scene(15, 3, 2, 5, -1, -1);
@@ -795,7 +759,7 @@ public final class PromiseTest {
 
     private static void breachOfTheNight() {
         Check.begin("promise 21, breach 5");
-        Kelirnight night = cycle();
+        Kelirnight night = Nights.cycle();
         for (int k = 0; k < 6; k++) {
             night.scene(15, 0, 2, 90, -1, -1);
         }
@@ -810,7 +774,7 @@ public final class PromiseTest {
 
     private static void at() {
         Check.begin("promise 22");
-        Kelirnight night = troupe();
+        Kelirnight night = Nights.troupe();
         Check.refused("place -1", night, INDEX, () -> night.at(-1));
         Check.refused("place 10", night, INDEX, () -> night.at(10));
         night.grip(0);
@@ -830,7 +794,7 @@ public final class PromiseTest {
         Check.begin("promise 23");
         int[] cycles = {8, 16, 12, 32};
         for (int mood = 0; mood < 4; mood++) {
-            Kelirnight night = playing(mood);
+            Kelirnight night = Nights.playing(mood);
             Check.same("mood", night.sound(0), mood);
             Check.same("speed", night.sound(1), 1);
             Check.same("beat", night.sound(2), 0);
@@ -841,7 +805,7 @@ public final class PromiseTest {
             }
             Check.same("gongs", night.many(GONGS), 72 / cycles[mood]);
         }
-        Kelirnight night = playing(3);
+        Kelirnight night = Nights.playing(3);
         Check.refused("what -1", night, ARGUMENT, () -> night.sound(-1));
         Check.refused("what 4", night, ARGUMENT, () -> night.sound(4));
         night.tap(3);
@@ -856,7 +820,7 @@ public final class PromiseTest {
 
     private static void many() {
         Check.begin("promise 24");
-        Kelirnight night = troupe();
+        Kelirnight night = Nights.troupe();
         Check.refused("what -1", night, ARGUMENT, () -> night.many(-1));
         Check.refused("what 16", night, ARGUMENT, () -> night.many(16));
         night.scene(15, 3, 4, 10, -1, 2);
@@ -893,7 +857,7 @@ public final class PromiseTest {
 
     private static void meanShadow() {
         Check.begin("promise 25");
-        Kelirnight night = troupe();
+        Kelirnight night = Nights.troupe();
         Check.sameReal("none", night.meanShadow(), 0.0);
         night.grip(0);
         Check.sameReal("one", night.meanShadow(), 40.0);
@@ -913,9 +877,9 @@ public final class PromiseTest {
         Check.begin("promise 26");
         int[] due = {1, 2, 2, 4};
         for (int mood = 0; mood < 4; mood++) {
-            Check.same("mood " + mood, playing(mood).nextGong(), due[mood]);
+            Check.same("mood " + mood, Nights.playing(mood).nextGong(), due[mood]);
         }
-        Kelirnight night = playing(2);
+        Kelirnight night = Nights.playing(2);
         night.pass(1);
         Check.same("4 beats are left", night.nextGong(), 1);
         night.pass(1);
@@ -923,7 +887,7 @@ public final class PromiseTest {
         night.tap(1);
         night.pass(1);
         Check.same("12 beats at speed 2", night.nextGong(), 1);
-        Kelirnight wild = playing(3);
+        Kelirnight wild = Nights.playing(3);
         wild.tap(1);
         wild.pass(4);
         Check.same("32 beats at speed 2", wild.nextGong(), 2);
@@ -933,14 +897,14 @@ public final class PromiseTest {
         wild.tap(3);
         wild.pass(2);
         Check.same("silent", wild.nextGong(), -1);
-        Kelirnight late = playing(3);
-        passAll(late, 540);
+        Kelirnight late = Nights.playing(3);
+        Nights.passAll(late, 540);
         Check.same("behind 540", late.nextGong(), 4);
     }
 
     private static void bestSwap() {
         Check.begin("promise 27");
-        Kelirnight night = cycle();
+        Kelirnight night = Nights.cycle();
         night.scene(15, 0, 2, 20, -1, -1);
         Check.same("one scene", night.bestSwap(), -1);
         night.scene(15, 0, 6, 20, -1, 1);
@@ -951,17 +915,17 @@ public final class PromiseTest {
         Check.truth("nothing is changed", night.digest() == before, true);
         night.pass(1);
         Check.same("whatever the minute is", night.bestSwap(), 2);
-        Kelirnight later = cycle();
+        Kelirnight later = Nights.cycle();
         later.scene(15, 0, 5, 20, -1, 0);
         later.scene(15, 0, 2, 20, -1, 1);
         later.scene(15, 0, 4, 20, -1, 2);
         later.scene(15, 0, 3, 20, -1, 0);
         Check.same("13 alone leaves none", later.bestSwap(), 13);
-        Kelirnight next = cycle();
+        Kelirnight next = Nights.cycle();
         next.scene(15, 0, 6, 20, -1, 1);
         next.scene(15, 0, 3, 20, -1, 0);
         Check.same("neighbours", next.bestSwap(), 1);
-        Kelirnight two = cycle();
+        Kelirnight two = Nights.cycle();
         two.scene(15, 0, 6, 20, -1, 1);
         two.scene(15, 0, 6, 20, -1, 2);
         two.scene(15, 0, 4, 20, -1, -1);
@@ -974,7 +938,7 @@ public final class PromiseTest {
 
     private static void liftFor() {
         Check.begin("promise 28");
-        Kelirnight night = troupe();
+        Kelirnight night = Nights.troupe();
         Check.refused("figure 4", night, INDEX, () -> night.liftFor(4, 0));
         Check.refused("figure -1", night, INDEX, () -> night.liftFor(-1, 1));
         Check.refused("shadow 0", night, ARGUMENT, () -> night.liftFor(0, 0));
@@ -995,7 +959,7 @@ public final class PromiseTest {
 
     private static void gripable() {
         Check.begin("promise 29");
-        Kelirnight night = troupe();
+        Kelirnight night = Nights.troupe();
         Check.same("all from their boxes", night.gripable(), 15);
         night.grip(0);
         Check.same("the left hand is full", night.gripable(), 2);
@@ -1019,7 +983,7 @@ public final class PromiseTest {
         Check.begin("promise 30");
         Kelirnight night = new Kelirnight();
         Check.same("of a new night", night.digest(), Digest.of(night));
-        Kelirnight full = troupe();
+        Kelirnight full = Nights.troupe();
         Check.same("with figures", full.digest(), Digest.of(full));
         full.scene(20, 1, 7, 40, 1, 0);
         full.scene(20, 2, 6, 40, -1, 2);
@@ -1034,7 +998,7 @@ public final class PromiseTest {
         full.lamp(44, 5);
         Check.same("in the night", full.digest(), Digest.of(full));
         Check.same("again", full.digest(), Digest.of(full));
-        Kelirnight told = cycle();
+        Kelirnight told = Nights.cycle();
         told.scene(15, 0, 2, 20, -1, -1);
         told.scene(15, 0, 7, 20, -1, 0);
         Check.same("who knows behind the last", told.digest(), Digest.of(told));

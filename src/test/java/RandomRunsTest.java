@@ -33,11 +33,16 @@ public final class RandomRunsTest {
         for (int k = 0; k < CALLS; k++) {
             step(k);
         }
+        // A night has 512 calls, so each comparison goes on with a new one that was brought to the same state.
+        night = again();
         plot.compare(night);
+        night = again();
         Check.same("digest", night.digest(), Digest.of(night));
+        night = again();
         compareGripable();
         compareLiftFor();
         compareNextGong();
+        night = again();
         compareBestSwap();
         compareShadows();
     }
